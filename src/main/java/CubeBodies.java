@@ -153,7 +153,7 @@ public final class CubeBodies {
         if (one == other || bitOf(now.body, one) == 0 || bitOf(now.body, other) == 0) {
             return NOT_THERE;
         }
-        return shape.isMostBySome(now.body, 1 << one | 1 << other) ? 1 : 0;
+        return shape.isEdge(now.body, 1 << one | 1 << other) ? 1 : 0;
     }
 
     // ---- points, floats
@@ -474,10 +474,10 @@ public final class CubeBodies {
             if (order < 0 || order + 2 >= ORDERS.length) {
                 return NONE;
             }
-            int carried = bitOf(corner, ORDERS[order])
-                    | bitOf(corner, ORDERS[order + 1]) << 1
-                    | bitOf(corner, ORDERS[order + 2]) << 2;
-            return carried ^ move & 7;
+            int x = corner >> ORDERS[order] & 1;
+            int y = corner >> ORDERS[order + 1] & 1;
+            int z = corner >> ORDERS[order + 2] & 1;
+            return (x | y << 1 | z << 2) ^ move & 7;
         }
 
         private static int imageBy(int move, int body) {
@@ -618,7 +618,7 @@ public final class CubeBodies {
     }
 
     /**
-     * A body measured by all WEIGHTS. It keeps what it found of the body measured last, and SIXFOLD of
+     * A body measured by all WEIGHTS. It keeps what it found of the body measured last, and POINTS of
      * every body met, since these are dear and are asked for again and again.
      */
     private static final class Shape {
@@ -628,36 +628,19 @@ public final class CubeBodies {
          * that the half ahead of it tells all.
          */
         private static final int HALF = 171;
-        private static final int UNKNOWN = Integer.MIN_VALUE;
+        private static final int TIMES = 3, PLACES = 64;
 
-        private int measured = UNKNOWN;
-        private int leastWidth = 0;
+        private int measured = 0;
+        private int leastWidth = NOT_THERE;
         private final int[] most = new int[HALF];
         private final int[] least = new int[HALF];
         /** For each CODE: whether just its CORNERS weigh MOST by some WEIGHTS (1, 0). */
         private final int[] isTop = new int[CODES];
-        private final int[] sixfolds = new int[CODES];
-
-        private Shape() {
-            for (int code = 0; code < CODES; code++) {
-                sixfolds[code] = UNKNOWN;
-            }
-        }
-
-        private static int weightA(int number) {
-            return number / 49 - 3;
-        }
-
-        private static int weightB(int number) {
-            return number / 7 % 7 - 3;
-        }
-
-        private static int weightC(int number) {
-            return number % 7 - 3;
-        }
+        /** POINTS 1, 2, 3 for each CODE; 0: not counted yet, for a body with CORNERS has some. */
+        private final int[] knownPoints = new int[CODES * TIMES];
 
         private static int cornerWeight(int corner, int a, int b, int c) {
-            return a * bitOf(corner, 0) + b * bitOf(corner, 1) + c * bitOf(corner, 2);
+            return a * (corner & 1) + b * (corner >> 1 & 1) + c * (corner >> 2 & 1);
         }
 
         /** Of a body with CORNERS. */
@@ -695,19 +678,36 @@ public final class CubeBodies {
             }
             leastWidth = Integer.MAX_VALUE;
             for (int number = 0; number < HALF; number++) {
-                measureBy(number, weightA(number), weightB(number), weightC(number));
+                measureBy(number);
                 leastWidth = Math.min(leastWidth, most[number] - least[number]);
             }
         }
 
-        private void measureBy(int number, int a, int b, int c) {
+        private void measureBy(int number) {
             if (number < 0 || number >= HALF) {
                 return;
             }
-            most[number] = mostBy(measured, a, b, c);
-            least[number] = -mostBy(measured, -a, -b, -c);
-            isTop[thoseThatWeigh(measured, a, b, c, most[number]) & ALL_CORNERS] = 1;
-            isTop[thoseThatWeigh(measured, a, b, c, least[number]) & ALL_CORNERS] = 1;
+            int heaviest = Integer.MIN_VALUE;
+            int lightest = Integer.MAX_VALUE;
+            int top = 0;
+            int bottom = 0;
+            for (int corner = 0; corner < CORNERS; corner++) {
+                int bit = 1 << corner & measured;
+                int weight = (number / 49 - 3) * (corner & 1) + (number / 7 % 7 - 3) * (corner >> 1 & 1)
+                        + (number % 7 - 3) * (corner >> 2 & 1);
+                if (bit != 0 && weight >= heaviest) {
+                    top = weight > heaviest ? bit : top | bit;
+                    heaviest = weight;
+                }
+                if (bit != 0 && weight <= lightest) {
+                    bottom = weight < lightest ? bit : bottom | bit;
+                    lightest = weight;
+                }
+            }
+            most[number] = heaviest;
+            least[number] = lightest;
+            isTop[top & ALL_CORNERS] = 1;
+            isTop[bottom & ALL_CORNERS] = 1;
         }
 
         private int width(int body) {
@@ -715,25 +715,29 @@ public final class CubeBodies {
             return leastWidth;
         }
 
-        private boolean isMostBySome(int body, int corners) {
+        private boolean isEdge(int body, int corners) {
             measure(body);
-            return corners >= 0 && corners < CODES && isTop[corners] == 1;
+            return isMeasuredTop(corners) && Integer.bitCount(corners) == 2;
         }
 
         private int edgeCount(int body) {
             measure(body);
             int edges = 0;
             for (int code = 0; code < CODES; code++) {
-                if (isTop[code] == 1 && Integer.bitCount(code) == 2) {
+                if (isMeasuredTop(code) && Integer.bitCount(code) == 2) {
                     edges++;
                 }
             }
             return edges;
         }
 
+        private boolean isMeasuredTop(int code) {
+            return code >= 0 && code < CODES && isTop[code] == 1;
+        }
+
         /** Three CORNERS of a cube are never in one line, so that their number is enough. */
         private boolean isMeasuredFace(int code) {
-            return code != measured && isMostBySome(measured, code) && Integer.bitCount(code) >= 3;
+            return isMeasuredTop(code) && code != measured && Integer.bitCount(code) >= 3;
         }
 
         private int faceCount(int body) {
@@ -764,8 +768,12 @@ public final class CubeBodies {
         /** Of a body with CORNERS. */
         private boolean isIn(int body, int m, int x, int y, int z) {
             measure(body);
+            return isInMeasured(m, x, y, z);
+        }
+
+        private boolean isInMeasured(int m, int x, int y, int z) {
             for (int number = 0; number < HALF; number++) {
-                int weight = weightA(number) * x + weightB(number) * y + weightC(number) * z;
+                int weight = (number / 49 - 3) * x + (number / 7 % 7 - 3) * y + (number % 7 - 3) * z;
                 if (weight > m * most[number] || weight < m * least[number]) {
                     return false;
                 }
@@ -775,27 +783,23 @@ public final class CubeBodies {
 
         /** Of a body with CORNERS. */
         private int pointsIn(int body, int m) {
-            int points = 0;
-            for (int x = 0; x <= 3; x++) {
-                for (int y = 0; y <= 3; y++) {
-                    for (int z = 0; z <= 3; z++) {
-                        if (isIn(body, m, x, y, z)) {
-                            points++;
-                        }
+            int at = body * TIMES + m - 1;
+            if (at < 0 || at >= knownPoints.length) {
+                return 0;
+            }
+            if (knownPoints[at] == 0) {
+                measure(body);
+                for (int place = 0; place < PLACES; place++) {
+                    if (isInMeasured(m, place & 3, place >> 2 & 3, place >> 4 & 3)) {
+                        knownPoints[at]++;
                     }
                 }
             }
-            return points;
+            return knownPoints[at];
         }
 
         private int sixfold(int body) {
-            if (body <= 0 || body >= CODES) {
-                return 0;
-            }
-            if (sixfolds[body] == UNKNOWN) {
-                sixfolds[body] = pointsIn(body, 3) - 3 * pointsIn(body, 2) + 3 * pointsIn(body, 1) - 1;
-            }
-            return sixfolds[body];
+            return body == 0 ? 0 : pointsIn(body, 3) - 3 * pointsIn(body, 2) + 3 * pointsIn(body, 1) - 1;
         }
 
         private float fat(int body) {
