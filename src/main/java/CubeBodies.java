@@ -808,9 +808,9 @@ public final class CubeBodies {
         }
     }
 
-    /** Floats' bits, made by sums and products alone, for 0 and for what has an ordinary exponent. */
+    /** Floats' bits, made by products and casts alone; CENTRE, FAT and SPREAD are all 0 or more, below 2. */
     private static final class Bits {
-        private static final int MOST_EXPONENT = 1000;
+        private static final int LEAST_EXPONENT = -100;
 
         private static int ofFloat(float value) {
             if (value <= 0.0f) {
@@ -828,29 +828,22 @@ public final class CubeBodies {
             return ((long) (exponent + 1023) << 52) + (long) (fractionOf(value, exponent) * 4503599627370496.0);
         }
 
-        /** The power of 2 that a value above 0 reaches and does not double. */
+        /** The power of 2 that the value reaches and does not double. */
         private static int exponentOf(double value) {
             double rest = value;
             int exponent = 0;
-            while (rest < 1.0 && exponent > -MOST_EXPONENT) {
+            while (rest < 1.0 && exponent > LEAST_EXPONENT) {
                 rest = rest * 2.0;
                 exponent--;
-            }
-            while (rest >= 2.0 && exponent < MOST_EXPONENT) {
-                rest = rest / 2.0;
-                exponent++;
             }
             return exponent;
         }
 
-        /** By how much a value is above that power, in parts of it: 0 or more, below 1. */
+        /** By how much the value is above that power, in parts of it: 0 or more, below 1. */
         private static double fractionOf(double value, int exponent) {
             double rest = value;
-            for (int i = 0; i > exponent; i--) {
+            for (int i = exponent; i < 0; i++) {
                 rest = rest * 2.0;
-            }
-            for (int i = 0; i < exponent; i++) {
-                rest = rest / 2.0;
             }
             return rest - 1.0;
         }

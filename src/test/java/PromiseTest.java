@@ -177,6 +177,9 @@ public final class PromiseTest {
             CubeBodies x = of(row[0]);
             for (int what = 0; what < row.length; what++) due("told " + what + " of " + row[0], x.told(what), row[what]);
         }
+        int[][] dimensions = {{0, 0}, {32, 1}, {96, 2}, {11, 3}, {60, 3}, {102, 3}, {153, 3}, {240, 3}, {27, 4},
+            {30, 4}, {105, 4}, {150, 4}, {232, 4}, {143, 4}};
+        for (int[] row : dimensions) due("dimension and 1 of " + row[0], of(row[0]).told(10), row[1]);
         due("far", of(0b11, 0b10000001).told(7), 2);
         due("far of an image", of(0b11, 0b11000000).told(7), 0);
         for (int bad : new int[] {-1, 13, LOW, HIGH}) due("told " + bad, of(1).told(bad), NONE);
