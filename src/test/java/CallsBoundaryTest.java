@@ -530,6 +530,20 @@ public final class CallsBoundaryTest extends Bench {
         due("a fifth", x.see(0, 0), FULL);
         due("a ninth", x.event(0, 0), FULL);
         due("a ninth", x.book(0, 0), FULL);
+        int after = in(BRIMFUL).after(0);
+        x.see(-1, 0);
+        x.event(-1, 0);
+        x.book(-1, 0);
+        for (int i = 0; i < 4; i++) x.see(3 - i, 99);
+        for (int i = 0; i < 8; i++) x.event(2, 0);
+        for (int i = 0; i < 8; i++) x.book(7 - i, 0);
+        due("other rows seen", x.fits(), 0);
+        due("other events", x.after(0), 255);
+        due("another book", x.looked(), 0);
+        due("from full to full", x.undo(), 255);
+        due("seen", x.fits(), 255);
+        due("after", x.after(0), after);
+        due("looked", x.looked(), NOT_THERE);
         x = new CubeBodies();
         due("with nothing", x.image(), 0);
         for (int i = 0; i < 8; i++) {
@@ -581,6 +595,9 @@ public final class CallsBoundaryTest extends Bench {
             CubeBodies x = in(BRIMFUL);
             due("nothing, n " + n, x.tape(5, -1, n), 1);
             due("nothing there", x.item(5, 0, 1), NOTHING);
+            due("nothing to be peeked at", x.peek(5, 0), NO);
+            due("nothing to be judged by", x.judge(5, 0), 100);
+            due("nothing to be shifted", x.shift(5, 0, 5, 0, 0), NOTHING);
             due("nothing again", x.tape(5, -1, n), 1);
             due("the others stay", x.peek(4, 59), 1);
         }

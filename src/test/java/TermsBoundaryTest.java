@@ -86,6 +86,8 @@ public final class TermsBoundaryTest extends Bench {
         due("the second", of(128).told(4), 1);
         due("the last but one", of(254).told(4), 20);
         due("the number of the last", of(255).told(4), 21);
+        int[] forms = {0, 1, 3, 6, 7, 15, 22, 23, 24, 25, 27, 30, 31, 60, 61, 63, 105, 107, 111, 126, 127, 255, NOT_THERE};
+        for (int i = 0; i < forms.length; i++) due("CLASS " + i, new CubeBodies().form(i), forms[i]);
         sentence("Terms", "LIKE: how many unlike IMAGES it has. STILL: how many MOVES have it as its own IMAGE.");
         int[][] likeStill = {{0, 1, 48}, {255, 1, 48}, {105, 2, 24}, {129, 4, 12}, {240, 6, 8}, {1, 8, 6}, {3, 12, 4},
             {7, 24, 2}, {25, 24, 2}};
