@@ -556,6 +556,77 @@ public final class TermsBoundaryTest extends Bench {
         due("a size of 0", x.tape(0, 4, 0), 1);
     }
 
+    // ---- answers
+
+    private static void answers() {
+        sentence("Answers", "the first that a call's words name.");
+        still("corner: NONE, BAD", x -> x.corner(8, 2), NONE);
+        still(BRIMFUL, "feed: BAD, FULL", x -> x.feed(128), BAD);
+        still(BARE, "weighs: BAD, NONE, STATE", x -> x.weighs(4, 0, 0, 3), BAD);
+        still(BARE, "weighs: BAD, STATE", x -> x.weighs(0, 0, 0, 0), BAD);
+        still(BARE, "weighs: NONE, STATE", x -> x.weighs(1, 0, 0, 3), NONE);
+        still(BARE, "edge: NONE, -5", x -> x.edge(0, 8), NONE);
+        still(BARE, "points: BAD, STATE", x -> x.points(0), BAD);
+        still(BARE, "holds: BAD, STATE", x -> x.holds(1, 0, 4, 0), BAD);
+        still(BARE, "floats: NONE, STATE", x -> x.floats(4), NONE);
+        still(BRIMFUL, "see: NONE, BAD, FULL", x -> x.see(4, 100), NONE);
+        still(BRIMFUL, "see: BAD, FULL", x -> x.see(3, 100), BAD);
+        still(BRIMFUL, "event: NONE, FULL", x -> x.event(3, 1), NONE);
+        still(BRIMFUL, "event, CORNER n: NONE, FULL", x -> x.event(0, 8), NONE);
+        still(BRIMFUL, "event, MOVE n: NONE, FULL", x -> x.event(1, 48), NONE);
+        still(BRIMFUL, "event: BAD, FULL", x -> x.event(2, 1), BAD);
+        still(BRIMFUL, "book: NONE, BAD, FULL", x -> x.book(8, 2), NONE);
+        still(BRIMFUL, "book: BAD, FULL", x -> x.book(7, 2), BAD);
+        still("judge: NONE, 100", x -> x.judge(6, -1), NONE);
+        still(SOME, "judge: CAST, 100", x -> x.judge(3, -1), CAST);
+        still("tape: NONE, BAD, SIZE", x -> x.tape(6, 5, -1), NONE);
+        still("tape: BAD, SIZE", x -> x.tape(5, 5, -1), BAD);
+        still("item: NONE, NOTHING, PLACE", x -> x.item(6, -1, 1), NONE);
+        still(SOME, "item: NOTHING, PLACE", x -> x.item(5, -1, 1), NOTHING);
+        still(SOME, "shift: NONE, NOTHING, PLACE", x -> x.shift(5, -1, 6, -1, -1), NONE);
+        still(SOME, "shift: NOTHING, PLACE", x -> x.shift(5, -1, 0, -1, -1), NOTHING);
+        still(SOME, "shift: CAST, PLACE", x -> x.shift(4, -1, 0, -1, -1), CAST);
+        sentence("Answers", "What is answered so changes nothing; what is asked changes nothing.");
+        asked("all refusals, one behind the other", TermsBoundaryTest::refuseAll);
+        asked("all questions, one behind the other", TermsBoundaryTest::askAll);
+        sentence("2", "All that follows is asked, and changes nothing.");
+        asked("what is asked behind 2", x -> x.told(7) + x.floats(0) + x.floats(3) + x.spread() + x.fits() + x.odds(7, 0)
+                + x.mean(1) + x.after(0) + x.after(1) + x.after(2) + x.looked());
+    }
+
+    private static long refuseAll(CubeBodies x) {
+        for (int n : new int[] {-5, 301, LOW, HIGH}) {
+            due("corner", x.corner(n, 1), NONE);
+            due("is", x.corner(1, n), BAD);
+            due("code", x.code(n), BAD);
+            due("move", x.move(n), NONE);
+            due("becomes", x.becomes(n), NONE);
+            due("feed", x.feed(n), BAD);
+            due("see", x.see(n, 1), NONE);
+            due("see", x.see(1, n), BAD);
+            due("event", x.event(n, 0), NONE);
+            due("event", x.event(0, n), NONE);
+            due("book", x.book(n, 1), NONE);
+            due("book", x.book(1, n), BAD);
+            due("tape", x.tape(n, 0, 1), NONE);
+            due("sort", x.tape(1, n, 1), BAD);
+            due("size", x.tape(1, 1, n), n < 0 ? SIZE : BAD);
+            due("item", x.item(n, 0, 1), NONE);
+            due("shift", x.shift(n, 0, 1, 0, 1), NONE);
+        }
+        return 0;
+    }
+
+    private static long askAll(CubeBodies x) {
+        long sum = x.spread() + x.fits() + x.looked() + x.mean(0) + x.mean(1);
+        for (int n = 0; n < 8; n++) {
+            sum += x.told(n) + x.told(n + 5) + x.carried(n, n) + x.imaged(6 * n) + x.form(n) + x.classes(n);
+            sum += x.weighs(n - 3, 1, 0, n % 3) + x.face(n) + x.edge(n, 7 - n) + x.points(n % 4) + x.holds(n % 4, 1, 1, 1);
+            sum += x.floats(n % 4) + x.odds(n, 1) + x.after(n % 3) + x.judge(n % 6, 0) + x.count(n % 4) + x.peek(n % 6, n);
+        }
+        return sum;
+    }
+
     public static void main(String[] args) {
         calls();
         corners();
@@ -574,6 +645,7 @@ public final class TermsBoundaryTest extends Bench {
         tapes();
         judging();
         hostsRefusals();
+        answers();
         end();
     }
 }
