@@ -585,6 +585,10 @@ public final class ModelTest {
         }
     }
 
+    /** What is behind an object's last call is free: a run ends with it. */
+    private static final int LAST_CALL = 512;
+    private static final int LONGEST_ROUND = 150;
+
     private static final class Pair {
         final CubeBodies real = new CubeBodies();
         final Model model = new Model();
@@ -595,7 +599,12 @@ public final class ModelTest {
             bothLong(name, a, a[2]);
         }
 
+        int left() {
+            return LAST_CALL - log.size();
+        }
+
         void bothLong(String name, int[] a, long v) {
+            if (left() == 0) return;
             int call = Arrays.asList(NAMES).indexOf(name);
             long want = model(model, call, a[0], a[1], a[2], a[3], a[4], v);
             String row = name + Arrays.toString(a) + " v " + v;
@@ -755,8 +764,8 @@ public final class ModelTest {
         if (below(8) != 0) p.both("read");
     }
 
-    private static void mixedCall(Pair p) {
-        String name = NAMES[below(NAMES.length)];
+    /** A call of this name, its numbers mostly as told. */
+    private static void mixedCall(Pair p, String name) {
         int[] a = new int[5];
         long v = 0;
         switch (name) {
@@ -812,15 +821,73 @@ public final class ModelTest {
         p.both("judge", tape, from);
     }
 
+    private static void mix(Pair p, int calls) {
+        while (p.log.size() < calls) {
+            int how = below(60);
+            if (how == 0) randomText(p);
+            else if (how == 1) tellBody(p);
+            else mixedCall(p, NAMES[below(NAMES.length)]);
+        }
+    }
+
+    /** All that can be asked, then what the text and the image still hide: some 120 calls. */
+    private static void askAll(Pair p) {
+        for (int what = 0; what < 13; what++) p.both("told", what);
+        for (int what = 0; what < 4; what++) p.both("floats", what);
+        p.both("spread");
+        for (int part = 0; part < 2; part++) p.both("mean", part);
+        for (int corner = 0; corner < 8; corner++) p.both("odds", corner, corner & 1);
+        for (int tape = 0; tape < 6; tape++) {
+            for (int i = 0; i < 8; i++) p.both("peek", tape, i);
+            p.both("judge", tape, 0);
+        }
+        askRows(p);
+        p.both("read");
+        p.state();
+        p.both("undo");
+        p.state();
+        askRows(p);
+    }
+
+    private static void askRows(Pair p) {
+        for (int what = 0; what < 4; what++) p.both("count", what);
+        for (int what = 0; what < 3; what++) p.both("after", what);
+        p.both("looked");
+        p.both("fits");
+        // one row that is otherwise hides those behind it: by the other CORNERS these may show themselves
+        p.both("becomes", 1);
+        p.both("looked");
+        p.both("fits");
+    }
+
     private static void mixedRuns(int runs) {
         for (int run = 0; run < runs; run++) {
             Pair p = new Pair();
-            while (p.log.size() < 512) {
-                int how = below(60);
-                if (how == 0) randomText(p);
-                else if (how == 1) tellBody(p);
-                else mixedCall(p);
+            mix(p, run % 2 == 0 ? LAST_CALL : 380);
+            askAll(p);
+            mix(p, LAST_CALL);
+            callsDue(p, LAST_CALL);
+        }
+    }
+
+    /** Each call of the face as an object's last one, behind a long mixed run, its numbers also wrong. */
+    private static void lastCalls(int runs) {
+        for (String name : NAMES) {
+            for (int run = 0; run < runs; run++) {
+                Pair p = new Pair();
+                // one round of mix() may be a whole text: the last ones are single calls
+                mix(p, LAST_CALL - LONGEST_ROUND);
+                while (p.left() > 1) mixedCall(p, NAMES[below(NAMES.length)]);
+                callsDue(p, LAST_CALL - 1);
+                mixedCall(p, name);
+                callsDue(p, LAST_CALL);
             }
+        }
+    }
+
+    private static void callsDue(Pair p, int calls) {
+        if (p.log.size() != calls && wrong++ < 10) {
+            System.out.println("a run has " + p.log.size() + " calls, and not " + calls);
         }
     }
 
@@ -831,6 +898,7 @@ public final class ModelTest {
         smallTexts();
         longTexts();
         mixedRuns(3000);
+        lastCalls(30);
         System.out.println(calls + " calls, " + (wrong == 0 ? "all as due" : wrong + " not as due"));
         if (wrong != 0) System.exit(1);
     }
